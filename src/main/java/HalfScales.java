@@ -782,8 +782,8 @@ public final class HalfScales {
         }
 
         static int cutsOf(Thing thing, int cells) {
-            int neighbours = (1 << thing.cellCount - 1) - 1;
-            return Integer.bitCount((cells ^ cells >> 1) & neighbours);
+            int neighbours = (1 << (thing.cellCount - 1)) - 1;
+            return Integer.bitCount((cells ^ (cells >> 1)) & neighbours);
         }
 
         static int fewestCuts(Thing thing, int people) {

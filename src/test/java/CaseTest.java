@@ -43,6 +43,12 @@ public final class CaseTest {
         Due.is("one", y.orders(0), 1);
         Due.is("its lightest", y.orders(1), 2);
         Due.is("its heaviest", y.orders(2), 1);
+        y.text();
+        Due.is("both again", y.orders(0), 2);
+        HalfScales z = Due.of("case 3;lighter 0 2;lighter 1 2;");
+        Due.is("two ahead of one", z.orders(0), 2);
+        Due.is("lightest of them", z.orders(1), 3);
+        Due.is("heaviest of them", z.orders(2), 4);
     }
 
     private static void next() {
@@ -182,6 +188,9 @@ public final class CaseTest {
             }
         }
         Due.is("by itself", x.rule(7), 8);
+        HalfScales y = Due.of("thing 0 0;dealer;plain;slip 9;");
+        Due.is("the one CUT, JUST to both", y.drift(5, 1, 0), 2);
+        Due.is("to nobody", new HalfScales().drift(5, 60, 0), 0);
         Due.is("drift(1, 0, 0)", x.drift(1, 0, 0), -1);
         Due.is("drift(1, 61, 0)", x.drift(1, 61, 0), -1);
         Due.is("drift(1, -1, 0)", x.drift(1, -1, 0), -1);

@@ -97,6 +97,7 @@ public final class SheetTest {
         x.lay(0, 1, 9);
         Due.is("read", x.read(0, 0, 0, 1), 1);
         Due.is("laid", x.cell(0), 9);
+        x.lay(0, 0, 1);
         Due.is("a new row", x.sheet(0, 0, 2), 1);
         Due.is("read again", x.read(0, 0, 0, 1), 1);
         Due.is("is of 0", x.cell(0), 0);

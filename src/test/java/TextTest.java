@@ -147,6 +147,9 @@ public final class TextTest {
         fault("plainplain;", -10, 2);
         fault("plai;", -10, 2);
         fault("plains;", -10, 2);
+        fault("xlain;", -10, 2);
+        fault("plainz;", -10, 2);
+        fault("aplain;", -10, 2);
         fault(";", -10, 2);
         fault("plain;;", -16, 2);
         fault("1;", -10, 2);
@@ -195,6 +198,8 @@ public final class TextTest {
         fault("fine 1;plain;fine 1;", -23, 4);
         fault("case 2;case 2;", -17, 4);
         fault("case 2;case", -17, 4);
+        fault("thing 1 1;slip 1;thing 1 1;", -27, 4);
+        fault("slip 1;fine 1;case 2;slip 1;", -31, 4);
     }
 
     private static void tooMany() {

@@ -130,6 +130,12 @@ public final class WorthTest {
         Due.is("sly(1, 0, 1)", x.sly(1, 0, 1), 9);
         HalfScales y = Due.of("thing 1 0 0 1;plain;plain;");
         Due.is("of several the first", y.sly(0, 1, 0), 1);
+        HalfScales z = Due.of("thing 1 3 2 5;plain;plain;");
+        // 1:10, 4:7, 6:5: 1, 4, 5
+        Due.is("the last is most", z.sly(0, 1, 0), 3);
+        HalfScales v = Due.of("thing 1 4 6 4;plain;plain;");
+        // 1:14, 5:10, 11:4: 1, 5, 4
+        Due.is("the last is more than the first alone", v.sly(0, 1, 0), 2);
         Due.is("alike people", y.sly(1, 1, 0), -1);
         Due.is("sly(2, 0, 0)", y.sly(2, 0, 0), -1);
         Due.is("sly(0, 2, 0)", y.sly(0, 2, 0), -1);
