@@ -410,7 +410,7 @@ public final class HalfScales {
         trial.copyFrom(now);
         int at = seed;
         int sum = 0;
-        for (int i = 0; i < n; i++) {
+        for (int i = 0; i < n && trial.cellCount > 0; i++) {
             at = at * 1103515245 + 12345;
             int got = (at >>> 16) & 0x7fff;
             trial.weights[got % trial.cellCount] = got / 8 % 10;

@@ -271,6 +271,10 @@ public final class CaseEdgeTest {
         Edge.still("all but 9", Run.of("thing 9 9;plain;").then("see", 0, 1, 2), 511, "fits", 0);
         Edge.still("all but 0", Run.of("thing 0 0;plain;").then("see", 0, 1, 1), 1022, "fits", 0);
         Edge.still("none", Run.of("thing 9 9;plain;").then("see", 0, 1, 1), 0, "fits", 0);
+        // The child finds twice w and 2 JUST by 1 alone, the last one, a dealer, by 2 and 3.
+        Run four = Run.of("thing 1 2;plain;child;sweet;dealer;");
+        Edge.still("SEEN by the second PERSON", four.then("see", 1, 1, 0), 2, "fits", 0);
+        Edge.still("SEEN by the last PERSON", four.then("see", 3, 1, 0), 12, "fits", 0);
         Run slip = Run.of("thing 0 9;plain;slip 9;").then("see", 0, 1, 0);
         Edge.still("by SLIP all", slip, 1023, "fits", 0);
         Edge.still("by SLIP as it is now", slip.then("set", 2, 0), 512, "fits", 0);
@@ -314,6 +318,8 @@ public final class CaseEdgeTest {
         Edge.still("SLIP 1: all", one.then("see", 0, 1, 0).then("set", 2, 1), 15, "kinds", 0);
         Run two = Run.of("thing 1 1;plain;child;");
         Edge.still("of somebody who found nothing", two.then("see", 0, 1, 0), 15, "kinds", 1);
+        Edge.still("of him alone who found it", two.then("see", 1, 1, 1), 6, "kinds", 1);
+        Edge.still("of the other one", two.then("see", 1, 1, 1), 15, "kinds", 0);
         Edge.still("of him, though others can not be", two.then("see", 0, 1, 2), 0, "kinds", 1);
         Edge.bad(Edge.NEW, "kinds", 0, Edge.row(0), -1, 0, 1, MIN, MAX);
         Edge.bad(one, "kinds", 0, Edge.row(0), -1, 1, MIN, MAX);

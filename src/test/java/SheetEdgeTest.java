@@ -136,6 +136,7 @@ public final class SheetEdgeTest {
         }
         Run laid = Edge.NEW.laid(0, 2, 1, 9, 1, 9);
         Edge.is("a new row of 0", laid.then("sheet", 0, 2, 4).then("read", 0, 2, 2, 1), 0, "cell", 0);
+        Edge.is("its CELL 0 too", laid.then("sheet", 0, 2, 4).then("read", 0, 2, 0, 1), 0, "cell", 0);
         Edge.is("a shorter row", laid.then("sheet", 0, 2, 2), 2, "count", 3);
         Edge.still("what was beyond is gone", laid.then("sheet", 0, 2, 2), -12, "lay", 0, 2, 0);
         Edge.is("longer again, of 0", laid.then("sheet", 0, 2, 2).then("sheet", 0, 2, 4).then("read", 0, 2, 2, 1), 0,

@@ -196,6 +196,9 @@ public final class TextEdgeTest {
             fault("z" + name + ";", -10, 2);
             fault(name.toUpperCase() + ";", -10, 1);
             fault(name + name + ";", -10, 2);
+            for (int i = 0; i < name.length(); i++) {
+                fault(name.substring(0, i) + "q" + name.substring(i + 1) + ";", -10, 2);
+            }
         }
         fault("a", -10, 2);
         fault("z", -10, 2);

@@ -240,6 +240,12 @@ public final class WorthEdgeTest {
         Run eight = Run.of("thing 1 1 1 1 1 1 1 4;plain;plain;");
         Edge.still("of two the first", eight, 5, "sly", 0, 1, 0);
         Edge.still("how much that is", eight, 5, "sly", 0, 1, 1);
+        // 1:14, 5:10, 11:4: 1 5 4.
+        Run second = Run.of("thing 1 4 6 4;plain;plain;");
+        Edge.still("the second CUT", second, 2, "sly", 0, 1, 0);
+        Edge.still("what it is", second, 5, "sly", 0, 1, 1);
+        // 9:5, 13:1: 5 1.
+        Edge.still("the first CUT", Run.of("thing 9 4 1;plain;plain;"), 1, "sly", 0, 1, 0);
         Run last = Run.of("thing 1 1 1 1 1 1 1 9;plain;plain;");
         Edge.still("the last CUT", last, 7, "sly", 0, 1, 0);
         Edge.still("what it is", last, 7, "sly", 0, 1, 1);
