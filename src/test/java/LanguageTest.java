@@ -15,6 +15,7 @@ import java.util.regex.Pattern;
 /** The face of the document, the rules of LANGUAGE.md that can be read off the source, and the room of a run. */
 public final class LanguageTest {
 
+    private static final int OBJECTS = 50;
     private static final Path SOURCE = Path.of("src/main/java/HalfScales.java");
     private static final String FACE = "feed(int) end(int) text() fault() rule(int) cell(int) person(int) pair(int) "
         + "weigh(int,int) split(int) join(int) teach(int,int) set(int,int) appeal() lighter(int,int) worth(int,int) "
@@ -120,12 +121,17 @@ public final class LanguageTest {
         long id = Thread.currentThread().getId();
         allCalls(new HalfScales());
         long before = threads.getThreadAllocatedBytes(id);
-        HalfScales x = new HalfScales();
+        HalfScales[] all = new HalfScales[OBJECTS];
+        for (int i = 0; i < OBJECTS; i++) {
+            all[i] = new HalfScales();
+        }
         long made = threads.getThreadAllocatedBytes(id) - before;
-        Due.holds("an object takes " + made + " bytes", made < 16000);
+        Due.holds("objects take " + made + " bytes", made < OBJECTS * 8000);
         before = threads.getThreadAllocatedBytes(id);
-        for (int i = 0; i < 100; i++) {
-            allCalls(x);
+        for (HalfScales each : all) {
+            // Twice all calls are fewer than the 512 that an object is used for.
+            allCalls(each);
+            allCalls(each);
         }
         made = threads.getThreadAllocatedBytes(id) - before;
         Due.holds("calls made " + made + " bytes", made < 4096);

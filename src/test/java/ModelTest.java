@@ -1,10 +1,16 @@
 import java.util.Random;
 
-/** Long mixed runs of all calls, each answer and the whole state behind it compared with the Model's. */
+/**
+ * Mixed runs of all calls, each answer compared with the Model's, and in the end all that can be seen at once. A run
+ * ends anywhere ahead of its 512th call, so that the end of some run is seen behind each call; what an object answers
+ * later is free.
+ */
 public final class ModelTest {
 
-    private static final int RUNS = 3000;
-    private static final int CALLS = 400;
+    private static final int RUNS = 16000;
+    private static final int MOST_CALLS = 512;
+    private static final int STATE_CALLS = 47;
+    private static final int TEXT_CALLS = 200;
     private static final int[] ODD = {-1, -2, 10, 12, 40, 41, 64, 99, 100, 128, 255, 1000,
         Integer.MAX_VALUE, Integer.MIN_VALUE, Integer.MAX_VALUE - 1};
 
@@ -12,6 +18,7 @@ public final class ModelTest {
     private final HalfScales x = new HalfScales();
     private final Model m = new Model();
     private String latest = "";
+    private int calls;
     private long got;
     private long want;
 
@@ -29,29 +36,34 @@ public final class ModelTest {
     }
 
     private boolean isAlike(int run) {
-        for (int i = 0; i < CALLS; i++) {
+        int last = 1 + random.nextInt(MOST_CALLS - STATE_CALLS);
+        while (calls < last) {
             call();
-            Due.is("run " + run + ", call " + i + ": " + latest, got, want);
-            if (got != want || !stateIsAlike(run, i)) {
+            Due.is("run " + run + ", call " + calls + ": " + latest, got, want);
+            if (got != want) {
                 return false;
             }
         }
-        return true;
+        if (calls + STATE_CALLS > MOST_CALLS) {
+            throw new IllegalStateException("more than 512 calls in run " + run);
+        }
+        return stateIsAlike(run);
     }
 
     private void told(String call, long program, long model) {
         latest = call;
+        calls++;
         got = program;
         want = model;
     }
 
-    private boolean stateIsAlike(int run, int call) {
+    private boolean stateIsAlike(int run) {
         boolean alike = x.fault() == m.fault() && x.torn() == m.torn();
         for (int i = 0; i < 9; i++) {
             alike &= x.rule(i) == m.rule(i) && x.cell(i) == m.cell(i) && x.pair(i) == m.pair(i)
                 && x.person(i) == m.person(i) && x.count(i) == m.count(i);
         }
-        Due.holds("run " + run + ", call " + call + ": state behind " + latest, alike);
+        Due.holds("run " + run + ", call " + calls + ": state behind " + latest, alike);
         return alike;
     }
 
@@ -83,7 +95,8 @@ public final class ModelTest {
     }
 
     private void call() {
-        int which = random.nextInt(60);
+        boolean isRoomForText = calls + TEXT_CALLS + STATE_CALLS <= MOST_CALLS;
+        int which = isRoomForText ? random.nextInt(60) : 4 + random.nextInt(56);
         if (which < 4) {
             text();
         } else if (which < 24) {
